@@ -62,6 +62,8 @@ public final class PromisesTest {
         copying();
         counting();
         digests();
+        fullCamp();
+        fullCampAtShows();
         check.end();
     }
 
@@ -454,6 +456,14 @@ public final class PromisesTest {
         due("11 just enough", x.apart(0), 24);
         due("11 seats(23, 0)", x.seats(23, 0), 1);
         due("11 one too few", x.apart(0), NONE);
+        int[] fives = new int[24];
+        java.util.Arrays.fill(fives, 5);
+        CampWeek y = campWith(fives, alone(24));
+        due("11 60 and 60 at first", y.apart(0), 0);
+        y.leave(0);
+        y.party(6, 0, 0, 0, NONE);
+        y.seats(60, 55);
+        due("11 60 and 55", y.apart(0), 5);
     }
 
     private static void sittingsAsEven() {
@@ -693,6 +703,11 @@ public final class PromisesTest {
         due("21 wet(40)", x.wet(40), BAD);
         x.sheet(0, 2, 3);
         due("21 fewer items", x.wet(39), 0);
+        x.sheet(0, 2, 17);
+        x.put(0, 2, 16, 1);
+        due("21 wet(16)", x.wet(16), 1);
+        x.sheet(0, 2, 16);
+        due("21 the item is there no more", x.wet(16), 0);
     }
 
     private static void places() {
@@ -839,6 +854,8 @@ public final class PromisesTest {
         due("26 an age of another one", x.group(2, 8, 9, 1), BAD);
         due("26 an age of another one", x.group(2, 0, 17, 1), BAD);
         due("26 an age of another one", x.group(2, 6, 7, 1), BAD);
+        due("26 the oldest of another one", x.group(2, 8, 17, 1), BAD);
+        due("26 the youngest of another one", x.group(1, 2, 5, 1), BAD);
         due("26 the rest", x.group(3, 9, 17, 1), 1);
         x.party(8, 8, 0, 0, NONE);
         x.child(0, 6);
@@ -925,6 +942,9 @@ public final class PromisesTest {
         due("30 with(0)", x.with(0), NONE);
         due("29 again", x.fetch(0, 0), NOT);
         due("28 handed over again", x.hand(0), 0);
+        due("28 hand(1)", x.hand(1), 0);
+        due("29 party 0 is not that of child 1", x.fetch(1, 0), NOT);
+        due("29 party 1 is", x.fetch(1, 1), 1);
     }
 
     private static void lists() {
@@ -940,6 +960,8 @@ public final class PromisesTest {
         }
         due("31 beyond 30", x.list(0, 0, 0), FULL);
         due("31 BAD before FULL", x.list(0, 0, 101), BAD);
+        due("32 of 30 lines", x.pays(999, 99), 100);
+        due("32 of 30 lines", x.pays(998, 99), 0);
         due("31 count(6)", x.count(6), 30);
     }
 
@@ -951,6 +973,7 @@ public final class PromisesTest {
         x.list(20, 5, 40);
         x.list(15, 99, 100);
         due("32 before any", x.pays(9, 99), 0);
+        due("32 day 0", x.pays(0, 0), 0);
         due("32 its day", x.pays(10, 0), 20);
         due("32 below the notice", x.pays(14, 13), 20);
         due("32 the notice", x.pays(14, 14), 80);
@@ -959,6 +982,12 @@ public final class PromisesTest {
         due("32 the later list", x.pays(19, 99), 100);
         due("32 the latest list", x.pays(20, 99), 40);
         due("32 without", x.pays(999, 4), 0);
+        CampWeek y = new CampWeek();
+        y.list(0, 0, 100);
+        due("32 one line, on day 0", y.pays(0, 0), 100);
+        due("32 one line, to the last day", y.pays(999, 999), 100);
+        y.list(0, 0, 30);
+        due("32 the greatest, told first", y.pays(5, 0), 100);
         due("32 pays(-1, 0)", x.pays(-1, 0), BAD);
         due("32 pays(1000, 0)", x.pays(1000, 0), BAD);
         due("32 pays(0, -1)", x.pays(0, -1), BAD);
@@ -1142,5 +1171,72 @@ public final class PromisesTest {
             h = 31 * h + part;
         }
         due("39 without a way", x.digest(), h);
+    }
+
+    private static void fullCamp() {
+        CampWeek x = campOf(30, 8);
+        for (int party = 0; party < 24; party++) {
+            x.party(8, 0, 0, 9, party % 10);
+            due("5 lodge " + party, x.lodge(party), party);
+        }
+        due("2 FULL", x.hut(0, 1), FULL);
+        due("9 in(29, 9)", x.in(29, 9), NONE);
+        due("9 in(23, 9)", x.in(23, 9), 23);
+        due("10 six huts", x.empty(9), 48);
+        due("14 more(33)", x.more(33), 10);
+        x.seats(192, 0);
+        due("15 all in sitting 0", x.foretell(0, 0), 192);
+        due("16 255 cooked, cut", x.cook(0, 0, 0), 255);
+        due("17 foretold", x.line(0, 2), 192);
+        due("17 cooked", x.line(0, 3), 255);
+        for (int party = 0; party < 23; party++) {
+            x.leave(party);
+        }
+        for (int party = 0; party < 23; party++) {
+            x.tell(23, party, 1);
+            due("5 APART from the last one", x.lodge(party), NONE);
+        }
+
+        CampWeek y = campOf(24, 8);
+        for (int party = 0; party < 24; party++) {
+            y.party(8, 0, party == 0 ? 1 : 0, 9, NONE);
+        }
+        for (int party = 1; party < 24; party++) {
+            y.lodge(party);
+        }
+        due("5 the last hut", y.lodge(0), 23);
+        due("5 it is free in week 0", y.in(23, 0), NONE);
+        due("9 the last party", y.in(22, 0), 23);
+        y.leave(0);
+        for (int i = 0; i < 6; i++) {
+            y.hut(1, 1);
+        }
+        due("10 hut 23 and six more", y.empty(1), 14);
+    }
+
+    private static void fullCampAtShows() {
+        CampWeek x = campOf(24, 8);
+        for (int show = 0; show < 12; show++) {
+            x.show(show < 6 ? show : -1, show < 6 ? 39 : 38, -1);
+            x.hall(show % 6, 32);
+        }
+        for (int party = 0; party < 24; party++) {
+            x.party(8, 0, 0, 9, NONE);
+            x.lodge(party);
+            for (int show = 0; show < 6; show++) {
+                due("20 wish", x.wish(party, show), show + 1);
+            }
+        }
+        for (int party = 0; party < 24; party++) {
+            due("23 four in each hall: " + party, x.goes(party, 9, 39), party / 4);
+            due("24 and away from the others: " + party, x.turned(party, 9, 39), party / 4);
+        }
+        for (int show = 0; show < 6; show++) {
+            due("25 crowd " + show, x.crowd(show, 0), 32);
+        }
+        x.hall(5, 31);
+        due("23 the last one", x.goes(23, 9, 39), NONE);
+        due("24 from all six", x.turned(23, 9, 39), 6);
+        due("25 three in hall 5", x.crowd(5, 9), 24);
     }
 }

@@ -2,9 +2,17 @@ import java.util.Random;
 
 /** Random runs of 512 calls, from fixed seeds, on the class and on the model: each answer must be the same. */
 public final class ModelTest {
-    private static final int RUNS = 400;
+    private static final int RUNS = 1000;
     private static final int CALLS = 512;
     private static final int KINDS = 37;
+    /** The first kind of each family of calls, and behind the last. */
+    private static final int[] FAMILIES = {0, 9, 16, 24, 31, KINDS};
+    private static final int HUT = 0;
+    private static final int PARTY = 1;
+    private static final int LODGE = 3;
+    private static final int SHOW = 17;
+    private static final int SHEET = 31;
+    private static final int LOSE = 32;
     private static final int[] WILD = {Integer.MIN_VALUE, Integer.MIN_VALUE + 1, -1001, -2, 41, 61, 1000, 1001,
         65536, Integer.MAX_VALUE - 1, Integer.MAX_VALUE};
 
@@ -25,11 +33,19 @@ public final class ModelTest {
         this.run = run;
         random = new Random(run);
         wildness = new int[] {0, 2, 20}[run % 3];
-        weeks = 1 + random.nextInt(10);
+        weeks = 1 + random.nextInt(random.nextBoolean() ? 2 : 10);
         mostSize = 1 + random.nextInt(8);
         tables = random.nextInt(11);
+        weigh();
+    }
+
+    /** Most calls of a run are of one family, so that its state grows rich; huts stay few and sheets last. */
+    private void weigh() {
+        int family = random.nextInt(FAMILIES.length - 1);
         for (int kind = 0; kind < KINDS; kind++) {
-            weights[kind] = 1 + random.nextInt(3) * random.nextInt(6);
+            boolean inFamily = kind >= FAMILIES[family] && kind < FAMILIES[family + 1];
+            weights[kind] = inFamily ? 10 + random.nextInt(30) : 1 + random.nextInt(5);
+            weights[kind] = kind == HUT || kind == SHEET || kind == LOSE ? 1 : weights[kind];
             allWeights += weights[kind];
         }
     }
@@ -43,10 +59,10 @@ public final class ModelTest {
     }
 
     private void go() {
-        for (int i = 0; i < 20; i++) {
-            call(i % 2);
-        }
-        for (int i = 20; i < CALLS; i++) {
+        int begin = callOften(HUT, 2 + random.nextInt(12)) + callOften(PARTY, 2 + random.nextInt(23))
+                + callOften(LODGE, random.nextInt(40)) + callOften(SHOW, random.nextInt(9))
+                + callOften(SHEET, random.nextInt(9));
+        for (int i = begin; i < CALLS; i++) {
             int at = random.nextInt(allWeights);
             int kind = 0;
             while (at >= weights[kind]) {
@@ -55,6 +71,13 @@ public final class ModelTest {
             }
             call(kind);
         }
+    }
+
+    private int callOften(int kind, int times) {
+        for (int i = 0; i < times; i++) {
+            call(kind);
+        }
+        return times;
     }
 
     private void due(String call, long got, long want) {
@@ -88,7 +111,7 @@ public final class ModelTest {
 
     /** Few hours, so that shows meet. */
     private int anHour() {
-        return random.nextInt(3) == 0 ? pick(0, 39) : pick(4, 9);
+        return random.nextInt(6) == 0 ? pick(0, 39) : pick(6, 8);
     }
 
     private int aWeek() {
@@ -248,10 +271,10 @@ public final class ModelTest {
     }
 
     private void callSheets(int kind) {
-        int s = random.nextBoolean() ? 0 : pick(0, 3);
+        int s = pick(0, 3);
         int t = pick(0, 3);
-        int form = random.nextInt(4) == 0 ? pick(0, 2) : run % 3;
-        int i = random.nextInt(3) == 0 ? pick(0, 60) : pick(0, 9);
+        int form = random.nextInt(9) == 0 ? pick(0, 2) : run % 3;
+        int i = random.nextInt(5) == 0 ? pick(0, 60) : pick(0, 9);
         switch (kind) {
             case 31 -> {
                 int n = pick(0, 60);

@@ -435,7 +435,8 @@ public final class CampWeek {
         }
 
         private boolean isInRow(int party, int row) {
-            return parties.isLodged(party) && huts.rows[parties.hutOf[party]] == row;
+            int hut = parties.hutOf[party];
+            return hut != NONE && huts.rows[hut] == row;
         }
 
         int takeIn(int party) {

@@ -71,31 +71,6 @@ public final class PromisesTest {
         check.due(call, got, want);
     }
 
-    /** A camp with so many huts of that many beds in row 0. */
-    private static CampWeek campOf(int huts, int beds) {
-        CampWeek x = new CampWeek();
-        for (int i = 0; i < huts; i++) {
-            x.hut(0, beds);
-        }
-        return x;
-    }
-
-    /** Adds parties of those sizes at those tables, in week 0, and lodges them. */
-    private static CampWeek campWith(int[] sizes, int[] tables) {
-        CampWeek x = campOf(sizes.length, 8);
-        for (int i = 0; i < sizes.length; i++) {
-            x.party(sizes[i], 0, 0, 0, tables[i]);
-            x.lodge(i);
-        }
-        return x;
-    }
-
-    private static int[] alone(int n) {
-        int[] tables = new int[n];
-        java.util.Arrays.fill(tables, NONE);
-        return tables;
-    }
-
     private static void constants() {
         due("NONE", CampWeek.NONE, -1);
         due("BAD", CampWeek.BAD, -2);
@@ -177,7 +152,7 @@ public final class PromisesTest {
     }
 
     private static void tellingApartOfLodged() {
-        CampWeek x = campOf(2, 2);
+        CampWeek x = Camps.ofHuts(2, 2);
         x.hut(1, 2);
         x.party(1, 0, 0, 3, NONE);
         x.party(1, 0, 3, 4, NONE);
@@ -370,7 +345,7 @@ public final class PromisesTest {
     }
 
     private static void leaving() {
-        CampWeek x = campOf(3, 2);
+        CampWeek x = Camps.ofHuts(3, 2);
         x.party(2, 0, 0, 0, NONE);
         x.party(2, 0, 0, 0, NONE);
         x.lodge(0);
@@ -385,7 +360,7 @@ public final class PromisesTest {
     }
 
     private static void about() {
-        CampWeek x = campOf(2, 8);
+        CampWeek x = Camps.ofHuts(2, 8);
         x.party(7, 3, 2, 5, 9);
         x.party(1, 0, 0, 9, NONE);
         x.lodge(1);
@@ -404,7 +379,7 @@ public final class PromisesTest {
     }
 
     private static void whoIsIn() {
-        CampWeek x = campOf(2, 2);
+        CampWeek x = Camps.ofHuts(2, 2);
         x.party(2, 0, 2, 4, NONE);
         x.party(2, 0, 5, 9, NONE);
         x.lodge(0);
@@ -438,7 +413,7 @@ public final class PromisesTest {
     }
 
     private static void seats() {
-        CampWeek x = campWith(new int[] {8, 8, 8}, alone(3));
+        CampWeek x = Camps.with(8, 8, 8);
         due("11 60 at first: apart", x.apart(0), 8);
         due("11 seats(-1, 0)", x.seats(-1, 0), BAD);
         due("11 seats(0, -1)", x.seats(0, -1), BAD);
@@ -456,9 +431,7 @@ public final class PromisesTest {
         due("11 just enough", x.apart(0), 24);
         due("11 seats(23, 0)", x.seats(23, 0), 1);
         due("11 one too few", x.apart(0), NONE);
-        int[] fives = new int[24];
-        java.util.Arrays.fill(fives, 5);
-        CampWeek y = campWith(fives, alone(24));
+        CampWeek y = Camps.full(5);
         due("11 60 and 60 at first", y.apart(0), 0);
         y.leave(0);
         y.party(6, 0, 0, 0, NONE);
@@ -467,7 +440,7 @@ public final class PromisesTest {
     }
 
     private static void sittingsAsEven() {
-        CampWeek x = campWith(new int[] {8, 3, 3, 2}, alone(4));
+        CampWeek x = Camps.with(8, 3, 3, 2);
         due("12 8 against 3 + 3 + 2", x.apart(0), 0);
         due("12 apart(-1)", x.apart(-1), BAD);
         due("12 apart(10)", x.apart(10), BAD);
@@ -489,7 +462,7 @@ public final class PromisesTest {
         due("12 no way", x.apart(0), NONE);
         due("13 no way", x.sits(0, 0), NONE);
 
-        CampWeek y = campWith(new int[] {4, 3, 4, 3}, new int[] {0, 1, 0, 1});
+        CampWeek y = Camps.with(new int[] {4, 3, 4, 3}, new int[] {0, 1, 0, 1});
         due("12 tables kept together", y.apart(0), 2);
         due("13 table 0", y.sits(0, 0), 0);
         due("13 table 0", y.sits(2, 0), 0);
@@ -498,19 +471,19 @@ public final class PromisesTest {
     }
 
     private static void sittingsFirstWay() {
-        CampWeek x = campWith(new int[] {2, 2, 1, 1}, alone(4));
+        CampWeek x = Camps.with(2, 2, 1, 1);
         due("12 even", x.apart(0), 0);
         int[] want = {0, 1, 0, 1};
         for (int party = 0; party < 4; party++) {
             due("13 first party that differs: " + party, x.sits(party, 0), want[party]);
         }
-        CampWeek y = campWith(new int[] {1, 3, 2, 2}, new int[] {NONE, 5, NONE, 5});
+        CampWeek y = Camps.with(new int[] {1, 3, 2, 2}, new int[] {NONE, 5, NONE, 5});
         due("12 3 against 5", y.apart(0), 2);
         due("13 party 0", y.sits(0, 0), 0);
         due("13 party 1", y.sits(1, 0), 1);
         due("13 party 2", y.sits(2, 0), 0);
         due("13 party 3", y.sits(3, 0), 1);
-        CampWeek z = campWith(new int[] {1, 2}, alone(2));
+        CampWeek z = Camps.with(1, 2);
         due("12 of two numbers like ones", z.apart(0), 1);
         due("13 party 0 first", z.sits(0, 0), 0);
         z.seats(1, 2);
@@ -520,7 +493,7 @@ public final class PromisesTest {
     }
 
     private static void sittingsOfFullCamp() {
-        CampWeek x = campOf(24, 8);
+        CampWeek x = Camps.ofHuts(24, 8);
         for (int party = 0; party < 24; party++) {
             x.party(8, 4, 0, 9, NONE);
             x.lodge(party);
@@ -550,7 +523,7 @@ public final class PromisesTest {
     }
 
     private static void foretelling() {
-        CampWeek x = campOf(3, 8);
+        CampWeek x = Camps.ofHuts(3, 8);
         x.party(5, 3, 0, 0, 1);
         x.party(4, 1, 0, 0, 1);
         x.party(8, 5, 0, 0, NONE);
@@ -569,7 +542,7 @@ public final class PromisesTest {
     }
 
     private static void cooking() {
-        CampWeek x = campWith(new int[] {8, 8, 3}, new int[] {1, 1, 2});
+        CampWeek x = Camps.with(new int[] {8, 8, 3}, new int[] {1, 1, 2});
         due("15 foretell(0, 0)", x.foretell(0, 0), 16);
         due("16 17 cooked, cut", x.cook(0, 0, 10), 7);
         due("16 nothing left", x.cook(0, 0, 17), 0);
@@ -603,7 +576,7 @@ public final class PromisesTest {
     }
 
     private static void bookIsFull() {
-        CampWeek x = campWith(new int[] {5}, alone(1));
+        CampWeek x = Camps.with(5);
         for (int i = 0; i < 40; i++) {
             due("16 line " + i, x.cook(0, 0, i), i > 5 ? -1000 - (i - 5) : 5 - i);
         }
@@ -732,7 +705,7 @@ public final class PromisesTest {
     }
 
     private static void crowds() {
-        CampWeek x = campOf(3, 8);
+        CampWeek x = Camps.ofHuts(3, 8);
         x.party(6, 0, 0, 1, NONE);
         x.party(5, 0, 1, 1, NONE);
         x.party(4, 0, 1, 2, NONE);
@@ -778,7 +751,7 @@ public final class PromisesTest {
     }
 
     private static void crowdsShareRoom() {
-        CampWeek x = campOf(3, 8);
+        CampWeek x = Camps.ofHuts(3, 8);
         for (int party = 0; party < 3; party++) {
             x.party(4, 0, 0, 0, NONE);
             x.lodge(party);
@@ -805,7 +778,7 @@ public final class PromisesTest {
     }
 
     private static void turnedAway() {
-        CampWeek x = campOf(2, 8);
+        CampWeek x = Camps.ofHuts(2, 8);
         x.party(5, 0, 0, 0, NONE);
         x.hall(0, 4);
         x.hall(1, 5);
@@ -1110,7 +1083,7 @@ public final class PromisesTest {
     }
 
     private static void counting() {
-        CampWeek x = campOf(3, 4);
+        CampWeek x = Camps.ofHuts(3, 4);
         x.party(2, 2, 0, 0, NONE);
         x.party(2, 0, 0, 0, NONE);
         x.lodge(1);
@@ -1174,7 +1147,7 @@ public final class PromisesTest {
     }
 
     private static void fullCamp() {
-        CampWeek x = campOf(30, 8);
+        CampWeek x = Camps.ofHuts(30, 8);
         for (int party = 0; party < 24; party++) {
             x.party(8, 0, 0, 9, party % 10);
             due("5 lodge " + party, x.lodge(party), party);
@@ -1197,7 +1170,7 @@ public final class PromisesTest {
             due("5 APART from the last one", x.lodge(party), NONE);
         }
 
-        CampWeek y = campOf(24, 8);
+        CampWeek y = Camps.ofHuts(24, 8);
         for (int party = 0; party < 24; party++) {
             y.party(8, 0, party == 0 ? 1 : 0, 9, NONE);
         }
@@ -1215,7 +1188,7 @@ public final class PromisesTest {
     }
 
     private static void fullCampAtShows() {
-        CampWeek x = campOf(24, 8);
+        CampWeek x = Camps.ofHuts(24, 8);
         for (int show = 0; show < 12; show++) {
             x.show(show < 6 ? show : -1, show < 6 ? 39 : 38, -1);
             x.hall(show % 6, 32);

@@ -1,3 +1,5 @@
+import java.math.BigInteger;
+
 /** The boundaries that the promises name, 1 to 39. */
 final class PromiseEdges {
     private static final int NONE = CampWeek.NONE;
@@ -956,9 +958,9 @@ final class PromiseEdges {
 
     /** The digest of those parts, as the document tells it. */
     private static long digestOf(long... parts) {
-        java.math.BigInteger h = java.math.BigInteger.valueOf(17);
+        BigInteger h = BigInteger.valueOf(17);
         for (long part : parts) {
-            h = h.multiply(java.math.BigInteger.valueOf(31)).add(java.math.BigInteger.valueOf(part));
+            h = h.multiply(BigInteger.valueOf(31)).add(BigInteger.valueOf(part));
         }
         return h.longValue();
     }

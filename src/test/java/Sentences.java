@@ -1,6 +1,7 @@
 import java.io.IOException;
 import java.nio.file.Files;
 import java.nio.file.Path;
+import java.util.Arrays;
 import java.util.LinkedHashMap;
 import java.util.Map;
 import java.util.function.Consumer;
@@ -29,13 +30,7 @@ final class Sentences {
             parts.put(title, text);
             quoted.put(title, new boolean[text.length()]);
         }
-        quoteWhole("The public face");
-        quoteWhole("Not promised");
-    }
-
-    /** A part that holds no sentence of its own to test: code, or what is free. */
-    private void quoteWhole(String part) {
-        quote(part, parts.getOrDefault(part, "?"));
+        quote("Not promised", parts.getOrDefault("Not promised", "?"));
     }
 
     private void quote(String part, String sentence) {
@@ -44,7 +39,7 @@ final class Sentences {
             check.fault(part + " does not hold once: " + sentence);
             return;
         }
-        java.util.Arrays.fill(quoted.get(part), at, at + sentence.length(), true);
+        Arrays.fill(quoted.get(part), at, at + sentence.length(), true);
     }
 
     /** Runs the test of a sentence that stands once in that part of the document. */
